@@ -387,7 +387,7 @@ public final class GemMemos {
         /** Answers where a row has a value, as a set of stones. */
         int setWhere(int[] row, int value) {
             int set = 0;
-            for (int s = 0; has(s); s++) {
+            for (int s = 0; s < count; s++) {
                 if (row[s] == value) {
                     set |= 1 << s;
                 }
@@ -397,7 +397,7 @@ public final class GemMemos {
 
         int countSold() {
             int sold = 0;
-            for (int s = 0; has(s); s++) {
+            for (int s = 0; s < count; s++) {
                 if (isSold(s)) {
                     sold++;
                 }
@@ -407,7 +407,7 @@ public final class GemMemos {
 
         int countOut() {
             int out = 0;
-            for (int s = 0; has(s); s++) {
+            for (int s = 0; s < count; s++) {
                 if (isOut(s)) {
                     out++;
                 }
@@ -417,7 +417,7 @@ public final class GemMemos {
 
         int sumSold() {
             int sum = 0;
-            for (int s = 0; has(s); s++) {
+            for (int s = 0; s < count; s++) {
                 sum += soldFor[s];
             }
             return sum;
@@ -426,7 +426,7 @@ public final class GemMemos {
         /** Adds up what is asked for those that are out, where a row has a value. */
         int sumAsked(int[] row, int value) {
             int sum = 0;
-            for (int s = 0; has(s); s++) {
+            for (int s = 0; s < count; s++) {
                 if (isOut(s) && row[s] == value) {
                     sum += asked[s];
                 }
@@ -439,8 +439,8 @@ public final class GemMemos {
             int lower = NONE;
             int greater = NONE;
             int least = 0;
-            for (int s = 0; has(s); s++) {
-                for (int t = s + 1; has(t); t++) {
+            for (int s = 0; s < count; s++) {
+                for (int t = s + 1; t < count; t++) {
                     int gap = Math.abs(weights[s] - weights[t]);
                     if (holders[s] == dealer && holders[t] == dealer && sameGrade(s, t)
                             && (lower == NONE || gap < least)) {
@@ -458,7 +458,7 @@ public final class GemMemos {
 
         int unlikeGrades(int dealer) {
             int unlike = 0;
-            for (int s = 0; has(s); s++) {
+            for (int s = 0; s < count; s++) {
                 if (holders[s] == dealer && !hasLikeBefore(s, dealer)) {
                     unlike++;
                 }
@@ -480,7 +480,7 @@ public final class GemMemos {
         }
 
         private boolean hasLikeBefore(int stone, int dealer) {
-            for (int s = 0; s < stone && has(s); s++) {
+            for (int s = 0; s < stone; s++) {
                 if (holders[s] == dealer && sameGrade(s, stone)) {
                     return true;
                 }
@@ -618,7 +618,7 @@ public final class GemMemos {
             if (memo == NONE) {
                 return LIMIT_REACHED;
             }
-            for (int s = 0; stones.has(s); s++) {
+            for (int s = 0; s < stones.count; s++) {
                 if ((set >> s & 1) == 1) {
                     stones.holders[s] = to;
                     stones.memos[s] = memo;
@@ -826,7 +826,7 @@ public final class GemMemos {
         int dearestHeld(int dealer, int coins) {
             int found = NONE;
             int dearest = 0;
-            for (int s = 0; stones.has(s); s++) {
+            for (int s = 0; s < stones.count; s++) {
                 int price = priceOf(s);
                 if (stones.holders[s] != dealer || price == NONE || price > coins) {
                     continue;
@@ -848,7 +848,7 @@ public final class GemMemos {
         }
 
         private boolean canLend(int from, int set) {
-            for (int s = 0; stones.has(s); s++) {
+            for (int s = 0; s < stones.count; s++) {
                 if ((set >> s & 1) == 1 && (stones.owners[s] != from
                         || stones.holders[s] != from || priceOf(s) == NONE)) {
                     return false;
@@ -876,11 +876,11 @@ public final class GemMemos {
         /** Keeps those that are late on the day; answers how many. */
         private int keepLateOnes() {
             int late = 0;
-            for (int m = 0; memos.has(m); m++) {
+            for (int m = 0; m < memos.count; m++) {
                 if (time - memos.lastDays[m] <= grace) {
                     continue;
                 }
-                for (int s = 0; stones.has(s); s++) {
+                for (int s = 0; s < stones.count; s++) {
                     if (stones.memos[s] == m) {
                         keepFor(s, stones.asked[s] + stones.asked[s] * extra / 100);
                         late++;
@@ -892,7 +892,7 @@ public final class GemMemos {
 
         private int worthOf(int dealer) {
             int worth = 0;
-            for (int s = 0; stones.has(s); s++) {
+            for (int s = 0; s < stones.count; s++) {
                 int price = priceOf(s);
                 if (stones.owners[s] == dealer && price != NONE) {
                     worth += price;
@@ -907,7 +907,7 @@ public final class GemMemos {
 
         private int countOpen() {
             int open = 0;
-            for (int m = 0; memos.has(m); m++) {
+            for (int m = 0; m < memos.count; m++) {
                 if (isOpen(m)) {
                     open++;
                 }
@@ -917,7 +917,7 @@ public final class GemMemos {
 
         private int sumOfBalances() {
             int sum = 0;
-            for (int d = 0; hasDealer(d); d++) {
+            for (int d = 0; d < dealers; d++) {
                 sum += balances[d];
             }
             return sum;
@@ -1020,6 +1020,7 @@ public final class GemMemos {
                     return market.regrade(first, second, third);
                 case RATE:
                     return market.putRate(first, second, third, fourth);
+                case WAIT:
                 default:
                     return market.passDays(first);
             }
@@ -1051,6 +1052,7 @@ public final class GemMemos {
                     return "grade";
                 case RATE:
                     return "rate";
+                case WAIT:
                 default:
                     return "wait";
             }
@@ -1065,6 +1067,9 @@ public final class GemMemos {
                     return 3;
                 case SELL:
                     return 2;
+                case BACK:
+                case KEEP:
+                case WAIT:
                 default:
                     return 1;
             }
@@ -1121,11 +1126,15 @@ public final class GemMemos {
         }
     }
 
-    /** The latest states ahead of changes, the oldest one first. */
+    /**
+     * The latest states ahead of changes, in a ring. Its rows are never moved: OpenJDK
+     * 17's compiler (C2, with G1) has been seen to mistake a loop that shifts references.
+     */
     private static final class History {
         private static final int LIMIT = 4;
 
         private final Market[] states = new Market[LIMIT];
+        private int oldest = 0;
         private int size = 0;
 
         History() {
@@ -1134,11 +1143,13 @@ public final class GemMemos {
             }
         }
 
+        /** Adds a state as the latest one; the oldest one gives room if there is none. */
         void push(Market state) {
-            if (size >= LIMIT) {
-                dropOldest();
+            if (size == LIMIT) {
+                oldest = (oldest + 1) % LIMIT;
+                size--;
             }
-            Market room = size >= 0 && size < LIMIT ? states[size] : null;
+            Market room = states[Math.floorMod(oldest + size, LIMIT)];
             if (room != null) {
                 room.copyFrom(state);
                 size++;
@@ -1147,21 +1158,14 @@ public final class GemMemos {
 
         /** Copies the latest state into a market, and removes it. */
         void popInto(Market market) {
-            Market latest = size > 0 && size <= LIMIT ? states[size - 1] : null;
+            if (size == 0) {
+                return;
+            }
+            Market latest = states[Math.floorMod(oldest + size - 1, LIMIT)];
             if (latest != null) {
                 market.copyFrom(latest);
                 size--;
             }
-        }
-
-        /** The row of the oldest state goes to the end, to be used again. */
-        private void dropOldest() {
-            Market oldest = states[0];
-            for (int i = 1; i < LIMIT; i++) {
-                states[i - 1] = states[i];
-            }
-            states[LIMIT - 1] = oldest;
-            size = LIMIT - 1;
         }
     }
 }

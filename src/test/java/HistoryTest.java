@@ -6,6 +6,8 @@ public final class HistoryTest {
         fourStates();
         whatIsAChange();
         eachChangeIsUndone();
+        oneMemoForAnother();
+        newOnesInThePlaceOfUndone();
         snapshots();
         snapshotHoldsAll();
         textAndSnapshotAreNoState();
@@ -77,40 +79,72 @@ public final class HistoryTest {
         gems.stone(0, 200, 0, 0);
         gems.stone(0, 300, 0, 0);
         gems.rate(4, 0, 0, 100);
+        gems.rate(4, 3, 3, 70);
         gems.lend(0, 1, 5, 3);
-        int[] was = Picture.of(gems);
-        gems.dealer();
-        undone(gems, was, "dealer");
-        gems.stone(1, 400, 0, 0);
-        undone(gems, was, "stone");
-        gems.rate(4, 0, 0, 200);
-        undone(gems, was, "rate");
-        gems.rate(4, 1, 1, 200);
-        undone(gems, was, "new rate");
-        gems.unrate(4, 0, 0);
-        undone(gems, was, "unrate");
-        gems.lend(0, 1, 5, 4);
-        undone(gems, was, "lend");
-        gems.back(0);
-        undone(gems, was, "back");
-        gems.keep(1);
-        undone(gems, was, "keep");
-        gems.sell(2, 50);
-        undone(gems, was, "sell");
-        gems.grade(0, 3, 3);
-        undone(gems, was, "grade");
-        gems.pause(99);
-        undone(gems, was, "pause");
-        gems.set(0, 9);
-        undone(gems, was, "set");
-        gems.set(1, 9);
-        undone(gems, was, "set");
+        undone(gems, "dealer", () -> gems.dealer());
+        undone(gems, "stone", () -> gems.stone(1, 400, 0, 0));
+        undone(gems, "rate", () -> gems.rate(4, 0, 0, 200));
+        undone(gems, "new rate", () -> gems.rate(4, 1, 1, 200));
+        undone(gems, "unrate", () -> gems.unrate(4, 0, 0));
+        undone(gems, "lend", () -> gems.lend(0, 1, 5, 4));
+        undone(gems, "back", () -> gems.back(0));
+        undone(gems, "keep", () -> gems.keep(1));
+        undone(gems, "sell", () -> gems.sell(2, 50));
+        undone(gems, "grade", () -> gems.grade(0, 3, 3));
+        undone(gems, "pause", () -> gems.pause(99));
+        undone(gems, "set 0", () -> gems.set(0, 9));
+        undone(gems, "set 1", () -> gems.set(1, 99));
+        Due.typeAll(gems, "sell 2 40;");
+        undone(gems, "play", () -> gems.play());
+        gems.mark();
+        gems.pause(1);
+        undone(gems, "restore", () -> gems.restore());
     }
 
-    private static void undone(GemMemos gems, int[] was, String what) {
+    /** Another change goes ahead, so that the state before is told from an older one. */
+    private static void undone(GemMemos gems, String what, Runnable change) {
+        gems.rate(0, 9, 7, gems.rateOf(0, 9, 7, 1) == 1 ? 2 : 1);
+        int[] was = Picture.of(gems);
+        change.run();
         due.holds(what + " does something", !java.util.Arrays.equals(was, Picture.of(gems)));
         gems.undo();
         due.holds(what + " is undone", java.util.Arrays.equals(was, Picture.of(gems)));
+    }
+
+    private static void oneMemoForAnother() {
+        GemMemos gems = Due.withDealers(4);
+        gems.stone(0, 100, 1, 1);
+        gems.stone(1, 200, 2, 2);
+        gems.rate(4, 2, 2, 100);
+        gems.lend(0, 1, 5, 1);
+        int[] was = Picture.of(gems);
+        gems.mark();
+        gems.undo();
+        gems.lend(1, 3, 9, 2);
+        gems.keep(1);
+        int[] then = Picture.of(gems);
+        gems.restore();
+        due.holds("the memo of the snapshot", java.util.Arrays.equals(was, Picture.of(gems)));
+        gems.undo();
+        due.holds("the memo of then", java.util.Arrays.equals(then, Picture.of(gems)));
+    }
+
+    private static void newOnesInThePlaceOfUndone() {
+        GemMemos gems = Due.withDealers(2);
+        gems.rate(4, 5, 5, 100);
+        gems.mark();
+        gems.stone(0, 100, 5, 5);
+        gems.lend(0, 1, 5, 1);
+        gems.keep(0);
+        gems.sell(0, 40);
+        gems.restore();
+        due.is("stone anew", gems.stone(1, 200, 5, 5), 0);
+        due.is("not kept", gems.stoneOf(0, 10), 0);
+        due.is("not sold", gems.stoneOf(0, 9), Due.NOT_FOUND);
+        due.is("owner", gems.stoneOf(0, 4), 1);
+        due.is("memo anew", gems.lend(1, 0, 5, 1), 0);
+        due.is("none kept of it", gems.memoOf(0, 5), 0);
+        due.is("asked", gems.stoneOf(0, 8), 200);
     }
 
     private static void snapshots() {

@@ -134,6 +134,11 @@ public final class TellsTest {
         }
         gems.mark();
         due.is("snapshot", gems.count(13), 1);
+        gems = Due.withDealers(2);
+        gems.stone(0, 100, 0, 0);
+        gems.rate(4, 0, 0, 100);
+        gems.lend(0, 1, 1, 1);
+        due.is("the first memo is open", gems.count(5), 1);
         due.is("bad", gems.count(-1), Due.INVALID);
         due.is("bad", gems.count(16), Due.INVALID);
         due.is("bad", gems.count(Integer.MIN_VALUE), Due.INVALID);
@@ -204,6 +209,10 @@ public final class TellsTest {
         duePair(gems, "not held", 6, 9, 10);
         gems.lend(1, 0, 5, 16);
         duePair(gems, "held, not owned", 0, 4, 0);
+        GemMemos next = Due.withDealers(1);
+        next.stone(0, 60, 0, 0);
+        next.stone(0, 55, 0, 0);
+        duePair(next, "next to each other, the heavier first", 0, 1, 5);
         int[][] bad = {{-1, 0}, {2, 0}, {0, -1}, {0, 3}};
         for (int[] b : bad) {
             due.is("bad pair", gems.pair(b[0], b[1]), Due.INVALID);
