@@ -1,3 +1,6 @@
+import java.util.Arrays;
+import java.util.function.IntSupplier;
+
 /** Counts the answers of one test that are not the ones that are due. */
 final class Due {
     static final int INVALID = -10000001;
@@ -8,13 +11,32 @@ final class Due {
 
     private int wrong = 0;
     private int checked = 0;
+    private String sentence = "";
+
+    /** Tells which sentence of the document the next answers are held against. */
+    void sentence(String where, String words) {
+        sentence = where + ", \"" + words + "\": ";
+    }
 
     void is(String call, long got, long want) {
         checked++;
         if (got != want) {
             wrong++;
-            System.out.println(call + " answered " + got + ", due is " + want);
+            System.out.println(sentence + call + " answered " + got + ", due is " + want);
         }
+    }
+
+    /** A call that is due to return an error, and to change nothing. */
+    void refused(String call, GemMemos gems, IntSupplier answer, int error) {
+        int[] was = Picture.ofAll(gems);
+        is(call, answer.getAsInt(), error);
+        holds(call + " changes nothing", Arrays.equals(was, Picture.ofAll(gems)));
+    }
+
+    /** Numbers that no stone, dealer or memo has when there are so many. */
+    static int[] noneOf(int many) {
+        return new int[] {Integer.MIN_VALUE, -many - 1, -1, many, many + 1, many + 32, 32, 64,
+            1 << 20, Integer.MAX_VALUE};
     }
 
     void holds(String what, boolean truth) {

@@ -19,18 +19,8 @@ public final class MemosTest {
         due.end();
     }
 
-    /** Three dealers; stones 0 to 3 (100, 200, 300, 400) of dealer 0, 4 (500) of dealer 1; 100 a carat. */
-    private static GemMemos market() {
-        GemMemos gems = Due.withDealers(3);
-        for (int i = 0; i < 5; i++) {
-            gems.stone(i == 4 ? 1 : 0, 100 * i + 100, 5, 5);
-        }
-        gems.rate(4, 5, 5, 100);
-        return gems;
-    }
-
     private static void lends() {
-        GemMemos gems = market();
+        GemMemos gems = Markets.small();
         due.is("lend", gems.lend(0, 2, 90, 5), 0);
         due.is("lend", gems.lend(1, 0, 1, 16), 1);
         due.is("from", gems.memoOf(0, 0), 0);
@@ -57,7 +47,7 @@ public final class MemosTest {
     }
 
     private static void lendArguments() {
-        GemMemos gems = market();
+        GemMemos gems = Markets.small();
         int[][] bad = {{-1, 1, 5, 1}, {3, 1, 5, 1}, {0, -1, 5, 1}, {0, 3, 5, 1}, {0, 0, 5, 1},
             {0, 1, 0, 1}, {0, 1, -1, 1}, {0, 1, 91, 1}, {0, 1, 5, 0}, {0, 1, 5, 32},
             {0, 1, 5, 33}, {0, 1, 5, -1}, {0, 1, 5, Integer.MIN_VALUE}, {0, 1, 5, 1 << 30},
@@ -76,7 +66,7 @@ public final class MemosTest {
     }
 
     private static void lendRefusals() {
-        GemMemos gems = market();
+        GemMemos gems = Markets.small();
         gems.stone(0, 30, 0, 0);
         due.is("no price", gems.lend(0, 1, 5, 32), Due.NOT_POSSIBLE);
         due.is("one without a price", gems.lend(0, 1, 5, 33), Due.NOT_POSSIBLE);
@@ -96,7 +86,7 @@ public final class MemosTest {
     }
 
     private static void tenMemos() {
-        GemMemos gems = market();
+        GemMemos gems = Markets.small();
         for (int i = 0; i < 10; i++) {
             due.is("lend", gems.lend(0, 1, 5, 1), i);
             gems.back(0);
@@ -112,7 +102,7 @@ public final class MemosTest {
     }
 
     private static void backs() {
-        GemMemos gems = market();
+        GemMemos gems = Markets.small();
         gems.lend(0, 1, 5, 7);
         gems.lend(0, 2, 5, 8);
         due.is("back", gems.back(1), 2);
@@ -137,7 +127,7 @@ public final class MemosTest {
     }
 
     private static void keeps() {
-        GemMemos gems = market();
+        GemMemos gems = Markets.small();
         gems.lend(0, 1, 5, 7);
         due.is("keep", gems.keep(1), 200);
         due.is("owner", gems.stoneOf(1, 4), 1);
@@ -166,7 +156,7 @@ public final class MemosTest {
     }
 
     private static void sells() {
-        GemMemos gems = market();
+        GemMemos gems = Markets.small();
         gems.lend(0, 1, 5, 3);
         due.is("out", gems.sell(0, 5), Due.NOT_POSSIBLE);
         due.is("out, bad coins", gems.sell(0, 0), Due.INVALID);
@@ -190,7 +180,7 @@ public final class MemosTest {
     }
 
     private static void gradesThatAreOut() {
-        GemMemos gems = market();
+        GemMemos gems = Markets.small();
         gems.rate(4, 1, 1, 1000);
         gems.lend(0, 1, 5, 1);
         due.is("grade", gems.grade(0, 1, 0), 55);
@@ -211,7 +201,7 @@ public final class MemosTest {
     }
 
     private static void gradeArguments() {
-        GemMemos gems = market();
+        GemMemos gems = Markets.small();
         int[][] bad = {{-1, 0, 0}, {5, 0, 0}, {0, -1, 0}, {0, 10, 0}, {0, 0, -1}, {0, 0, 8}};
         gems.sell(0, 7);
         for (int[] b : bad) {
@@ -242,7 +232,7 @@ public final class MemosTest {
     }
 
     private static void lateOnes() {
-        GemMemos gems = market();
+        GemMemos gems = Markets.small();
         gems.lend(0, 1, 2, 3);
         gems.lend(0, 2, 3, 4);
         due.is("in grace", gems.pause(5), 0);
@@ -262,7 +252,7 @@ public final class MemosTest {
     }
 
     private static void lateOrderAndSums() {
-        GemMemos gems = market();
+        GemMemos gems = Markets.small();
         gems.set(0, 0);
         gems.set(1, 15);
         gems.rate(4, 5, 5, 33);
@@ -273,7 +263,7 @@ public final class MemosTest {
         due.is("33 + 4, 132 + 19, 165 + 24", gems.dealerOf(1, 0), Due.BASE - 37 - 151 + 189);
         due.is("0", gems.dealerOf(0, 0), Due.BASE + 37 + 151);
         due.is("2", gems.dealerOf(2, 0), Due.BASE - 189);
-        gems = market();
+        gems = Markets.small();
         gems.set(1, 100);
         gems.lend(0, 1, 1, 1);
         gems.pause(4);

@@ -1,11 +1,23 @@
 import java.util.ArrayList;
 import java.util.List;
 
-/** Takes down all that can be told of a state, but for history, text and snapshot. */
+/** Takes down what can be told; these calls count too, but the class does not count its calls. */
 final class Picture {
     private Picture() {
     }
 
+    /** All that can be told without a change. */
+    static int[] ofAll(GemMemos gems) {
+        int[] state = of(gems);
+        int[] all = java.util.Arrays.copyOf(state, state.length + 6);
+        for (int i = 0; i < 3; i++) {
+            all[state.length + i] = gems.count(11 + i);
+            all[state.length + 3 + i] = gems.fault(i);
+        }
+        return all;
+    }
+
+    /** All that can be told of the state, but for history, text and snapshot. */
     static int[] of(GemMemos gems) {
         List<Integer> told = new ArrayList<>();
         for (int what = 0; what < 16; what++) {
