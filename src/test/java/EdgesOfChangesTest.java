@@ -96,18 +96,18 @@ public final class EdgesOfChangesTest {
                         () -> some.stone(none, 1, 0, 0), Due.INVALID);
             }
         }
-        due.sentence("Promise 3", "weight: 1 to 999");
+        due.sentence("Promise 3", "`weight`: 1 to 999");
         int[] weights = {MIN, -999, -1, 0, 1, 999, 1000, 65537, MAX};
         for (int weight : weights) {
             dueStone(weight, 0, 0, weight >= 1 && weight <= 999);
         }
-        due.sentence("Promise 3", "colour: 0 to 9");
+        due.sentence("Promise 3", "`colour`: 0 to 9");
         dueStone(5, 0, 7, true);
         dueStone(5, 9, 7, true);
         for (int no : NO_COLOURS) {
             dueStone(5, no, 7, false);
         }
-        due.sentence("Promise 3", "clarity: 0 to 7");
+        due.sentence("Promise 3", "`clarity`: 0 to 7");
         dueStone(5, 9, 0, true);
         dueStone(5, 9, 7, true);
         for (int no : NO_CLARITIES) {
@@ -147,19 +147,19 @@ public final class EdgesOfChangesTest {
         due.is("none again, but a worse one", gems.rate(0, 0, 0, 3), 0);
         due.is("the first grade", gems.rate(0, 0, 0, 2), 3);
         due.is("the last grade", gems.rate(4, 9, 7, 2), 0);
-        due.sentence("Promise 4", "sieve: 0 to 4");
+        due.sentence("Promise 4", "`sieve`: 0 to 4");
         for (int no : NO_SIEVES) {
             due.refused("sieve " + no, gems, () -> gems.rate(no, 0, 0, 5), Due.INVALID);
         }
-        due.sentence("Promise 4", "colour: 0 to 9");
+        due.sentence("Promise 4", "`colour`: 0 to 9");
         for (int no : NO_COLOURS) {
             due.refused("colour " + no, gems, () -> gems.rate(2, no, 3, 5), Due.INVALID);
         }
-        due.sentence("Promise 4", "clarity: 0 to 7");
+        due.sentence("Promise 4", "`clarity`: 0 to 7");
         for (int no : NO_CLARITIES) {
             due.refused("clarity " + no, gems, () -> gems.rate(2, 3, no, 5), Due.INVALID);
         }
-        due.sentence("Promise 4", "coins: 1 to 9999");
+        due.sentence("Promise 4", "`coins`: 1 to 9999");
         int[] bad = {MIN, -9999, -1, 0, 10000, 65537, MAX};
         for (int coins : bad) {
             due.refused("new for " + coins, gems, () -> gems.rate(1, 1, 1, coins), Due.INVALID);
@@ -195,15 +195,15 @@ public final class EdgesOfChangesTest {
         GemMemos gems = new GemMemos();
         gems.rate(0, 0, 0, 1);
         gems.rate(4, 9, 7, 9999);
-        due.sentence("Promise 5", "sieve: 0 to 4");
+        due.sentence("Promise 5", "`sieve`: 0 to 4");
         for (int no : NO_SIEVES) {
             due.refused("sieve " + no, gems, () -> gems.unrate(no, 0, 0), Due.INVALID);
         }
-        due.sentence("Promise 5", "colour: 0 to 9");
+        due.sentence("Promise 5", "`colour`: 0 to 9");
         for (int no : NO_COLOURS) {
             due.refused("colour " + no, gems, () -> gems.unrate(0, no, 0), Due.INVALID);
         }
-        due.sentence("Promise 5", "clarity: 0 to 7");
+        due.sentence("Promise 5", "`clarity`: 0 to 7");
         for (int no : NO_CLARITIES) {
             due.refused("clarity " + no, gems, () -> gems.unrate(0, 0, no), Due.INVALID);
         }
@@ -224,18 +224,18 @@ public final class EdgesOfChangesTest {
 
     private static void lendArguments() {
         GemMemos gems = Markets.small();
-        due.sentence("Promise 6", "from: number of the dealer who lends");
+        due.sentence("Promise 6", "`from`: number of the dealer who lends");
         for (int none : Due.noneOf(3)) {
             due.refused("from " + none, gems, () -> gems.lend(none, 1, 5, 1), Due.INVALID);
         }
-        due.sentence("Promise 6", "to: number of another dealer");
+        due.sentence("Promise 6", "`to`: number of another dealer");
         for (int none : Due.noneOf(3)) {
             due.refused("to " + none, gems, () -> gems.lend(0, none, 5, 1), Due.INVALID);
         }
         due.sentence("Promise 6", "both dealers are the same");
         due.refused("both the same", gems, () -> gems.lend(0, 0, 5, 1), Due.INVALID);
         due.refused("both the same", gems, () -> gems.lend(2, 2, 5, 1), Due.INVALID);
-        due.sentence("Promise 6", "days: 1 to 90: the last day is as many days from now");
+        due.sentence("Promise 6", "`days`: 1 to 90: the last day is as many days from now");
         int[] bad = {MIN, -90, -1, 0, 91, 257, MAX};
         for (int days : bad) {
             due.refused("for " + days, gems, () -> gems.lend(0, 1, days, 1), Due.INVALID);
@@ -246,7 +246,7 @@ public final class EdgesOfChangesTest {
         due.is("for 90", gems.lend(0, 2, 90, 2), 1);
         due.is("last day", gems.memoOf(1, 2), 2090);
         due.is("days until then", gems.memoOf(1, 7), 90);
-        due.sentence("Promise 6", "stones: a set of stones, not empty");
+        due.sentence("Promise 6", "`stones`: a set of stones, not empty");
         due.refused("empty", gems, () -> gems.lend(0, 1, 5, 0), Due.INVALID);
         due.sentence("Promise 6", "or there is no such stone");
         int[] none = {1 << 5, 1 << 5 | 4, 1 << 19, 1 << 20, 1 << 30, MIN, MIN | 4, -1, MAX, 4 - 32};
@@ -377,7 +377,7 @@ public final class EdgesOfChangesTest {
         due.is("yet below 0", gems.sell(2, 299), Due.BASE - 1);
         due.is("above 0", gems.sell(4, 2), Due.BASE + 1);
         due.is("another's", gems.sell(3, 1), Due.BASE + 301);
-        due.sentence("Promise 9", "coins: 1 to 9999");
+        due.sentence("Promise 9", "`coins`: 1 to 9999");
         GemMemos some = Markets.small();
         int[] bad = {MIN, -9999, -1, 0, 10000, 65537, MAX};
         for (int coins : bad) {
@@ -419,11 +419,11 @@ public final class EdgesOfChangesTest {
         due.is("9, 7, the same", gems.grade(0, 0, 7), 97);
         due.is("0, 7", gems.grade(0, 9, 0), 7);
         due.is("9, 0", gems.grade(0, 5, 5), 90);
-        due.sentence("Promise 10", "colour: 0 to 9");
+        due.sentence("Promise 10", "`colour`: 0 to 9");
         for (int no : NO_COLOURS) {
             due.refused("colour " + no, gems, () -> gems.grade(0, no, 0), Due.INVALID);
         }
-        due.sentence("Promise 10", "clarity: 0 to 7");
+        due.sentence("Promise 10", "`clarity`: 0 to 7");
         for (int no : NO_CLARITIES) {
             due.refused("clarity " + no, gems, () -> gems.grade(0, 0, no), Due.INVALID);
         }
@@ -442,7 +442,7 @@ public final class EdgesOfChangesTest {
     }
 
     private static void pause() {
-        due.sentence("Promise 11", "days: 1 to 99");
+        due.sentence("Promise 11", "`days`: 1 to 99");
         GemMemos gems = Markets.lent();
         int[] bad = {MIN, -99, -1, 0, 100, 257, MAX};
         for (int days : bad) {
@@ -482,7 +482,7 @@ public final class EdgesOfChangesTest {
     }
 
     private static void set() {
-        due.sentence("Promise 12", "what: 0 or 1");
+        due.sentence("Promise 12", "`what`: 0 or 1");
         GemMemos gems = new GemMemos();
         int[] none = {MIN, -2, -1, 2, 3, MAX};
         for (int what : none) {

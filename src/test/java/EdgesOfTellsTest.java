@@ -217,6 +217,10 @@ public final class EdgesOfTellsTest {
         gems.back(1);
         gems.back(2);
         dueMemo("closed early", gems, 0, 1, 5, 0, 7, 0, 0, 5);
+        gems.lend(0, 2, 8, 3);
+        gems.keep(0);
+        dueMemo("one kept by a later memo", gems, 0, 1, 5, 0, 7, 0, 0, 5);
+        due.is("kept by the later one", gems.memoOf(1, 5), 1);
     }
 
     private static void rateOf() {
@@ -224,15 +228,15 @@ public final class EdgesOfTellsTest {
         gems.rate(0, 0, 0, 1);
         gems.rate(4, 9, 7, 9999);
         for (int own = 0; own <= 1; own++) {
-            due.sentence("Promise 16", "sieve: 0 to 4");
+            due.sentence("Promise 16", "`sieve`: 0 to 4");
             for (int no : new int[] {MIN, -1, 5, 6, MAX}) {
                 due.is("sieve " + no, gems.rateOf(no, 0, 0, own), Due.INVALID);
             }
-            due.sentence("Promise 16", "colour: 0 to 9");
+            due.sentence("Promise 16", "`colour`: 0 to 9");
             for (int no : new int[] {MIN, -1, 10, 11, MAX}) {
                 due.is("colour " + no, gems.rateOf(0, no, 0, own), Due.INVALID);
             }
-            due.sentence("Promise 16", "clarity: 0 to 7");
+            due.sentence("Promise 16", "`clarity`: 0 to 7");
             for (int no : new int[] {MIN, -1, 8, 9, MAX}) {
                 due.is("clarity " + no, gems.rateOf(0, 0, no, own), Due.INVALID);
             }
@@ -326,7 +330,7 @@ public final class EdgesOfTellsTest {
         for (int none : Due.noneOf(3)) {
             due.is("dealer " + none, gems.best(none, 500), Due.INVALID);
         }
-        due.sentence("Promise 18", "coins: 0 to 99999");
+        due.sentence("Promise 18", "`coins`: 0 to 99999");
         int[] bad = {MIN, -99999, -1, 100000, 100001, MAX};
         for (int coins : bad) {
             due.is("coins " + coins, gems.best(0, coins), Due.INVALID);

@@ -105,7 +105,7 @@ public final class EdgesOfTextsTest {
     }
 
     private static void type() {
-        due.sentence("Promise 24", "character: 32 to 126");
+        due.sentence("Promise 24", "`character`: 32 to 126");
         GemMemos gems = new GemMemos();
         int[] bad = {Integer.MIN_VALUE, -1, 0, 10, 31, 127, 128, 255, 256 + 65, 65536 + 65,
             Integer.MAX_VALUE};
